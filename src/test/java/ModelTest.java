@@ -1,5 +1,3 @@
-import java.lang.reflect.InvocationTargetException;
-import java.lang.reflect.Method;
 import java.util.ArrayList;
 import java.util.Arrays;
 import java.util.List;
@@ -31,7 +29,7 @@ public final class ModelTest {
     private static final Due due = new Due();
     private static long seed = 20261119;
 
-    public static void main(String[] args) throws ReflectiveOperationException {
+    public static void main(String[] args) {
         List<String> asked = new ArrayList<>(KINDS.keySet());
         asked.sort(null);
         for (int run = 0; run < RUNS; run++) {
@@ -41,7 +39,7 @@ public final class ModelTest {
         due.end();
     }
 
-    private static void compare(List<String> asked, int run) throws ReflectiveOperationException {
+    private static void compare(List<String> asked, int run) {
         Chipfield program = new Chipfield();
         PlainModel model = new PlainModel();
         // A run in which fewer LINES, PLACES and CHIPS are named has more that comes together.
@@ -51,24 +49,11 @@ public final class ModelTest {
             String name = isChange ? CHANGES[below(CHANGES.length)] : asked.get(below(asked.size()));
             Object[] given = arguments(name, narrow);
             String told = name + Arrays.toString(given) + " at call " + k;
-            due.is(told, outcome(model, name, given), outcome(program, name, given));
+            due.is(told, Calls.outcome(model, name, given), Calls.outcome(program, name, given));
             if (k % 25 == 24) {
                 due.is("digest at call " + k, model.digest(), program.digest());
             }
         }
-    }
-
-    private static String outcome(Object on, String name, Object[] given) throws ReflectiveOperationException {
-        for (Method method : on.getClass().getDeclaredMethods()) {
-            if (method.getName().equals(name)) {
-                try {
-                    return String.valueOf(method.invoke(on, given));
-                } catch (InvocationTargetException e) {
-                    return e.getCause().getClass().getName();
-                }
-            }
-        }
-        throw new NoSuchMethodException(name);
     }
 
     private static Object[] arguments(String name, int narrow) {

@@ -1,3 +1,5 @@
+import java.math.BigInteger;
+import java.util.function.LongConsumer;
 import java.util.function.LongUnaryOperator;
 
 /** Promise by promise: ordinary inputs, the edges that the document names, and wrong inputs. */
@@ -547,11 +549,12 @@ public final class PromiseTest {
         due.is("3 * 7", 9, x.times(3, 7));
         due.is("15 * 15", 10, x.times(15, 15));
         for (int one = 0; one < 16; one++) {
-            due.is("by 0", 0, x.times(one, 0) + x.times(0, one));
-            due.is("by 1", one, x.times(one, 1));
+            Chipfield y = new Chipfield();
+            due.is("by 0", 0, y.times(one, 0) + y.times(0, one));
+            due.is("by 1", one, y.times(one, 1));
             for (int two = 0; two < 16; two++) {
-                due.is("distributes", x.times(one, two) ^ x.times(one, 6), x.times(one, two ^ 6));
-                due.is("doubles", x.times(2, x.times(one, two)), x.times(x.times(2, one), two));
+                due.is("distributes", y.times(one, two) ^ y.times(one, 6), y.times(one, two ^ 6));
+                due.is("doubles", y.times(2, y.times(one, two)), y.times(y.times(2, one), two));
             }
         }
         Chipfield z = used();
@@ -561,10 +564,9 @@ public final class PromiseTest {
 
     private static void power() {
         due.part("16 power");
-        Chipfield x = new Chipfield();
         int[] powers = {1, 2, 4, 8, 3, 6, 12, 11, 5, 10, 7, 14, 15, 13, 9};
         for (int k = 0; k <= 999; k++) {
-            due.is("power " + k, powers[k % 15], x.power(k));
+            due.is("power " + k, powers[k % 15], new Chipfield().power(k));
         }
         Chipfield z = used();
         wrong("power", ARGUMENT, z, k -> z.power((int) k), -1, 1000, Integer.MIN_VALUE, Integer.MAX_VALUE);
@@ -700,9 +702,9 @@ public final class PromiseTest {
     private static void mendedAnywhere() {
         due.part("21 mended anywhere");
         for (int first = 0; first < 15; first++) {
-            Chipfield x = new Chipfield();
-            x.write(first, 5555555555L);
             for (int one = 1; one < 16; one++) {
+                Chipfield x = new Chipfield();
+                x.write(first, 5555555555L);
                 x.ray(first, first, one);
                 due.is("one error " + one, 1 << first, x.mended(first));
                 for (int second = first + 1; second < 15; second++) {
@@ -711,7 +713,6 @@ public final class PromiseTest {
                     due.is("its data", 5555555555L, x.data(first));
                     x.ray(second, first, 16 - one);
                 }
-                x.ray(first, first, one);
             }
         }
     }
@@ -836,6 +837,10 @@ public final class PromiseTest {
         x.mad(5, 2);
         due.is("as read", "?3", x.row(1).substring(4, 6));
         due.is("its length", 15, x.row(1).length());
+        x.mad(0, 0);
+        for (int line = 0; line < 16; line++) {
+            due.is("the sign of " + line, "0123456789abcdef".substring(line, line + 1), x.row(line).substring(0, 1));
+        }
         Chipfield z = used();
         for (int line : new int[] {-1, 16}) {
             due.throwsAndKeepsRow("row " + line, OUT, z, () -> z.row(line));
@@ -918,6 +923,23 @@ public final class PromiseTest {
         x.mad(2, 5);
         due.is("the chip that has the seat", 1, x.wouldLose(2, 0));
         due.is("nothing is counted", 0, x.bank(0) + x.bank(1));
+        Chipfield known = new Chipfield();
+        known.ray(0, 3, 1);
+        known.stick(2, 3, 15, 0);
+        known.mad(2, 0);
+        known.erase(2, true);
+        due.is("one that is ERASED may be wrong", 0, known.wouldLose(2, 0));
+        due.is("another with one error beside it is none too many", 0, known.wouldLose(0, 0));
+        due.is("a third is", 1, known.wouldLose(1, 2));
+        due.is("with the least KEY", 1, known.wouldLose(1, 0));
+        due.is("with the greatest", 1, known.wouldLose(1, 15));
+        due.is("with that which reads 0 there", 0, known.wouldLose(1, 13));
+        known.ray(1, 3, 2);
+        known.erase(1, true);
+        due.is("three are wrong, but two of them are ERASED", 0, known.wouldLose(2, 0));
+        due.is("in other LINES one or two", 0, known.wouldLose(1, 9));
+        known.erase(1, false);
+        due.is("one of them is ERASED", 1, known.wouldLose(2, 0));
         Chipfield z = used();
         wrong("wouldLose place", OUT, z, place -> z.wouldLose((int) place, 0), -1, 15);
         wrong("wouldLose key", ARGUMENT, z, key -> z.wouldLose(0, (int) key), -1, 16);
@@ -928,10 +950,12 @@ public final class PromiseTest {
         due.part("32 health");
         Chipfield x = new Chipfield();
         due.is("all", (Double) 1.0, (Double) x.health());
+        due.is("none is BAD", 0, x.bank(10));
         for (int line = 0; line < 16; line++) {
             spoil(x, line);
             due.is("after " + line, (Double) ((15 - line) / 16.0), (Double) x.health());
         }
+        due.is("all are BAD", 16, x.bank(10));
         x.erase(0, true);
         x.erase(1, true);
         due.is("known again", (Double) 1.0, (Double) x.health());
@@ -959,48 +983,80 @@ public final class PromiseTest {
 
     private static void digest() {
         due.part("34 digest");
-        Chipfield x = new Chipfield();
-        checkDigest(x);
-        x.write(3, MOST_DATA);
-        checkDigest(x);
-        spoil(x, 3);
-        spoil(x, 4);
-        x.store(5, MOST_DATA);
-        x.mad(9, 3);
-        x.stick(9, 2, 3, 3);
-        x.patrol(9);
-        x.replace(14);
-        x.erase(2, true);
-        x.call();
-        checkDigest(x);
+        for (int state = 0; state < DIGESTED; state++) {
+            due.is("state " + state, digestOf(state), digested(state).digest());
+        }
+        Chipfield x = digested(DIGESTED - 1);
         due.is("the same again", x.digest(), x.digest());
+        due.part("34 digest: wraps around as a 64-bit integer");
+        BigInteger[] d = {BigInteger.valueOf(3331)};
+        eachValue(1, v -> d[0] = d[0].multiply(BigInteger.valueOf(31)).add(BigInteger.valueOf(v)));
+        due.is("it is far above", true, d[0].bitLength() > 1000);
+        due.is("what is left of it", d[0].longValue(), digested(1).digest());
     }
 
-    private static void checkDigest(Chipfield x) {
-        long d = 3331;
+    private static final int DIGESTED = 4;
+
+    private static Chipfield digested(int state) {
+        Chipfield x = new Chipfield();
+        if (state > 0) {
+            x.write(3, MOST_DATA);
+        }
+        if (state > 1) {
+            spoil(x, 3);
+            spoil(x, 4);
+            x.store(5, MOST_DATA);
+            x.mad(9, 3);
+            x.stick(9, 2, 3, 3);
+            x.patrol(9);
+            x.replace(14);
+            x.erase(2, true);
+            x.call();
+        }
+        if (state > 2) {
+            for (int line = 0; line < 16; line++) {
+                spoil(x, line);
+            }
+            x.erase(2, false);
+        }
+        return x;
+    }
+
+    private static long digestOf(int state) {
+        long[] d = {3331};
+        eachValue(state, v -> d[0] = d[0] * 31 + v);
+        return d[0];
+    }
+
+    /** The values of the checksum, asked of two objects: one alone would be used for too many calls. */
+    private static void eachValue(int state, LongConsumer next) {
+        Chipfield x = digested(state);
         for (int what = 0; what <= 12; what++) {
-            d = d * 31 + x.bank(what);
+            next.accept(x.bank(what));
         }
         for (int chip = 0; chip < 18; chip++) {
             for (int what = 0; what <= 5; what++) {
-                d = d * 31 + x.ofChip(chip, what);
+                next.accept(x.ofChip(chip, what));
             }
         }
         for (int line = 0; line < 16; line++) {
-            d = ((d * 31 + x.mended(line)) * 31 + x.data(line)) * 31 + x.spare(line);
+            next.accept(x.mended(line));
+            next.accept(x.data(line));
+            next.accept(x.spare(line));
         }
+        Chipfield y = digested(state);
         for (int chip = 0; chip < 18; chip++) {
             for (int line = 0; line < 16; line++) {
-                d = d * 31 + x.stored(chip, line);
+                next.accept(y.stored(chip, line));
             }
         }
         for (int frame = 0; frame < 4; frame++) {
             for (int what = 0; what <= 2; what++) {
-                d = d * 31 + x.ofFrame(frame, what);
+                next.accept(y.ofFrame(frame, what));
             }
-            d = d * 31 + x.held(frame);
+            next.accept(y.held(frame));
         }
-        d = d * 31 + (long) (64 * x.health());
-        due.is("digest", d * 31 + (x.isSound() ? 1 : 0), x.digest());
+        next.accept((long) (64 * y.health()));
+        next.accept(y.isSound() ? 1 : 0);
     }
 }
