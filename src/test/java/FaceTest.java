@@ -15,14 +15,24 @@ import java.util.stream.Collectors;
 /** The face is the document's, and the source keeps to what of LANGUAGE.md can be seen in its text. */
 public final class FaceTest {
 
+    private static final String INDEX = " throws IndexOutOfBoundsException";
+    private static final String ARGUMENT = " throws IllegalArgumentException";
+    private static final String INDEX_ARGUMENT = INDEX + ", IllegalArgumentException";
+    private static final String INDEX_STATE = INDEX + ", IllegalStateException";
+
     private static final List<String> FACE = List.of(
-            "int write(int, long)", "int stick(int, int, int, int)", "int mad(int, int)", "int ray(int, int, int)",
-            "int erase(int, boolean)", "int replace(int)", "int limit(int)", "int fetch(int)", "int patrol(int)",
-            "long load(int)", "int store(int, long)", "int flush()", "int call()", "int times(int, int)",
-            "int power(int)", "int symbol(long, int)", "int fooled(int, int, int, int, int)", "int seen(int, int)",
-            "int sum(int, int)", "int mended(int)", "long data(int)", "int ofChip(int, int)", "int stored(int, int)",
-            "int ofFrame(int, int)", "long held(int)", "int bank(int)", "String row(int)", "int wouldMend(int, int)",
-            "int spare(int)", "int wouldLose(int, int)", "double health()", "boolean isSound()", "long digest()");
+            "int write(int, long)" + INDEX_ARGUMENT, "int stick(int, int, int, int)" + INDEX_ARGUMENT,
+            "int mad(int, int)" + INDEX_ARGUMENT, "int ray(int, int, int)" + INDEX_ARGUMENT,
+            "int erase(int, boolean)" + INDEX_STATE, "int replace(int)" + INDEX_STATE, "int limit(int)" + ARGUMENT,
+            "int fetch(int)" + INDEX, "int patrol(int)" + ARGUMENT, "long load(int)" + INDEX,
+            "int store(int, long)" + INDEX_ARGUMENT, "int flush()", "int call()", "int times(int, int)" + ARGUMENT,
+            "int power(int)" + ARGUMENT, "int symbol(long, int)" + INDEX_ARGUMENT,
+            "int fooled(int, int, int, int, int)" + INDEX_ARGUMENT, "int seen(int, int)" + INDEX,
+            "int sum(int, int)" + INDEX_ARGUMENT, "int mended(int)" + INDEX, "long data(int)" + INDEX,
+            "int ofChip(int, int)" + INDEX_ARGUMENT, "int stored(int, int)" + INDEX,
+            "int ofFrame(int, int)" + INDEX_ARGUMENT, "long held(int)" + INDEX, "int bank(int)" + ARGUMENT,
+            "String row(int)" + INDEX, "int wouldMend(int, int)" + INDEX_ARGUMENT, "int spare(int)" + INDEX,
+            "int wouldLose(int, int)" + INDEX_ARGUMENT, "double health()", "boolean isSound()", "long digest()");
 
     /** What LANGUAGE.md allows of what is ruled out otherwise. */
     private static final Pattern ALLOWED = Pattern.compile("import java\\.util\\.(ArrayList|Arrays|Iterator|List"
@@ -49,7 +59,7 @@ public final class FaceTest {
                 due.is(method.getName() + " is public alone", Modifier.PUBLIC, method.getModifiers());
                 open.add(method.getReturnType().getSimpleName() + " " + method.getName()
                         + Arrays.stream(method.getParameterTypes()).map(Class::getSimpleName)
-                                .collect(Collectors.joining(", ", "(", ")")));
+                                .collect(Collectors.joining(", ", "(", ")")) + thrown(method));
             }
         }
         due.is("methods", new TreeSet<>(FACE), open);
@@ -58,11 +68,19 @@ public final class FaceTest {
         due.is("constructor", "public Chipfield()", made[0].toString());
     }
 
+    private static String thrown(Method method) {
+        String names = Arrays.stream(method.getExceptionTypes()).map(Class::getSimpleName)
+                .collect(Collectors.joining(", "));
+        return names.isEmpty() ? "" : " throws " + names;
+    }
+
     private static void nothingElseIsOpen() {
         due.part("closed");
         for (Field field : Chipfield.class.getDeclaredFields()) {
-            due.is(field.getName() + " is private", true, field.isSynthetic() || Modifier.isPrivate(field.getModifiers()));
+            boolean isPrivate = Modifier.isPrivate(field.getModifiers());
+            due.is(field.getName() + " is private", true, field.isSynthetic() || isPrivate);
         }
+        checkOwnMembers(Chipfield.class);
         Set<String> taken = Arrays.stream(Chipfield.class.getMethods()).map(Method::getName)
                 .collect(Collectors.toSet());
         checkPrivateNames(Chipfield.class, taken);
@@ -72,11 +90,22 @@ public final class FaceTest {
             int kept = own.getModifiers() & (Modifier.PUBLIC | Modifier.PROTECTED);
             due.is(own.getName() + " is private or package-visible", 0, kept);
             checkPrivateNames(own, taken);
-            for (Field field : own.getDeclaredFields()) {
-                boolean isChanging = !Modifier.isFinal(field.getModifiers());
-                due.is(field.getName() + " is static state", false,
-                        isChanging && Modifier.isStatic(field.getModifiers()));
-            }
+            checkOwnMembers(own);
+        }
+    }
+
+    /** Rules 5 and 11: no static state, some twenty fields in a class, seven parameters in a method. */
+    private static void checkOwnMembers(Class<?> owner) {
+        int fields = 0;
+        for (Field field : owner.getDeclaredFields()) {
+            boolean isStatic = Modifier.isStatic(field.getModifiers());
+            boolean isChanging = !Modifier.isFinal(field.getModifiers());
+            due.is(field.getName() + " is static state", false, isChanging && isStatic);
+            fields += isStatic ? 0 : 1;
+        }
+        due.is("some twenty fields at most in " + owner.getName(), true, fields < 24);
+        for (Method method : owner.getDeclaredMethods()) {
+            due.is(method.getName() + " takes at most seven", true, method.getParameterCount() <= 7);
         }
     }
 
